@@ -1,0 +1,4 @@
+final class PromiseTests {
+    static void run() {
+    }
+}
