@@ -7,6 +7,7 @@ final class AllTests {
         FaceTests.run();
         LanguageTests.run(args[0]);
         PromiseTests.run();
+        SoundnessTests.run();
         ModelTests.run();
         if (!Check.tell()) {
             System.exit(1);
