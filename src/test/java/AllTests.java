@@ -7,6 +7,15 @@ final class AllTests {
         FaceTests.run();
         LanguageTests.run(args[0]);
         PromiseTests.run();
+        NumberBoundaryTests.run();
+        CellBoundaryTests.run();
+        StepBoundaryTests.run();
+        SearchBoundaryTests.run();
+        ThrowBoundaryTests.run();
+        ArgumentBoundaryTests.run();
+        AnswerBoundaryTests.run();
+        QuestionBoundaryTests.run();
+        WholeBoundaryTests.run();
         SoundnessTests.run();
         ModelTests.run();
         if (!Check.tell()) {
