@@ -66,7 +66,7 @@ final class FaceTests {
     static void run() {
         Check.test("the public methods are the document's", FaceTests::testMethods);
         Check.test("nothing else is seen from outside", FaceTests::testHidden);
-        Check.test("no hidden method bears a public one's name", FaceTests::testNames);
+        Check.test("no private method bears a public one's name", FaceTests::testNames);
         Check.test("static fields are final", FaceTests::testStaticFields);
     }
 
@@ -126,14 +126,16 @@ final class FaceTests {
         for (String line : FACE) {
             names.add(line.substring(line.indexOf(' ') + 1, line.indexOf('(')));
         }
-        for (Method method : Nearplaces.class.getDeclaredMethods()) {
+        testPrivateNames(Nearplaces.class, names);
+        for (Class<?> inside : Nearplaces.class.getDeclaredClasses()) {
+            testPrivateNames(inside, names);
+        }
+    }
+
+    private static void testPrivateNames(Class<?> kind, Set<String> names) {
+        for (Method method : kind.getDeclaredMethods()) {
             boolean isDoubled = isPrivate(method) && names.contains(method.getName());
             Check.due(method.getName() + " bears a public name", false, () -> isDoubled);
-        }
-        for (Class<?> inside : Nearplaces.class.getDeclaredClasses()) {
-            for (Method method : inside.getDeclaredMethods()) {
-                Check.due(method.getName() + " bears a public name", false, () -> names.contains(method.getName()));
-            }
         }
     }
 

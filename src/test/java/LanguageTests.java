@@ -8,15 +8,19 @@ import java.util.regex.Pattern;
 
 /** Those rules of LANGUAGE.md that can be seen in the lines of the program. */
 final class LanguageTests {
+    private static final Pattern IMPORT = Pattern.compile(
+            "import java\\.util\\.(ArrayList|Arrays|Iterator|List|NoSuchElementException);");
     private static final List<String> FORBIDDEN = List.of(
-            "\\bimport\\b", "\\bpackage\\b", "->", "::", "\\bfinally\\b", "\\bcatch\\b", "\\btry\\b",
-            "\\bassert\\b", "\\bsynchronized\\b", "\\bdouble\\b", "\\bfloat\\b", "\\bDouble\\b",
-            "\\bString\\.", "\\bSystem\\b", "\\bThread\\b", "\\bequals\\b", "\\bhashCode\\b",
-            "\\btoString\\b", "Exact\\(", "\\bMIN_VALUE\\b", "\\bMAX_VALUE\\b", "\\bprotected\\b",
+            "\\bpackage\\b", "::", "\\bfinally\\b", "\\bassert\\b", "\\bsynchronized\\b", "\\bprotected\\b",
+            "\\bDouble\\b", "\\bFloat\\b", "\\bThread\\b", "\\bhashCode\\b", "\\bString\\.\\w",
+            "\\bSystem\\.(?!arraycopy\\b)", "\\bgetMessage\\b", "Exact\\(", "\\bM(IN|AX)_VALUE\\b",
             "\"\\s*\\+", "\\+\\s*\"");
+    private static final Pattern LAMBDA = Pattern.compile("->");
     private static final Pattern LIBRARY = Pattern.compile("\\b(Math|Long|Integer|Arrays)\\.(\\w+)");
-    private static final List<String> ALLOWED = List.of(
-            "Math.max", "Math.min", "Math.abs", "Long.numberOfLeadingZeros", "Long.numberOfTrailingZeros");
+    private static final Pattern LISTED = Pattern.compile(
+            "Math\\.(max|min|abs|floorDiv|floorMod)"
+            + "|(Long|Integer)\\.(compare|max|min|bitCount|numberOf(Leading|Trailing)Zeros|signum)"
+            + "|Arrays\\.(copyOf|copyOfRange|fill)");
     private static final Pattern HEAD = Pattern.compile("^(    |        )\\w[\\w\\[\\] ]*\\(.*");
 
     private LanguageTests() {
@@ -24,8 +28,9 @@ final class LanguageTests {
 
     static void run(String path) {
         List<String> lines = linesOf(path);
-        Check.test("rule 3: characters 1 to 127", () -> testSigns(lines));
-        Check.test("rules 4, 6, 10: only what is listed", () -> testWords(lines));
+        Check.test("rules 3 and 4: signs of 1 to 127", () -> testSigns(lines));
+        Check.test("rules 1, 2, 4, 6, 10: none of the words that are not listed", () -> testWords(lines));
+        Check.test("rule 4: of the library only what is listed", () -> testLibrary(lines));
         Check.test("rule 11: short methods, few classes", () -> testLengths(lines));
     }
 
@@ -39,9 +44,8 @@ final class LanguageTests {
 
     private static void testSigns(List<String> lines) {
         for (String line : lines) {
-            boolean isPlain = line.chars().allMatch(sign -> sign >= 32 && sign < 127);
+            boolean isPlain = line.chars().allMatch(sign -> sign >= 1 && sign <= 127);
             Check.due("plain signs in: " + line, true, () -> isPlain);
-            Check.due("short line: " + line, true, () -> line.length() <= 120);
         }
     }
 
@@ -58,10 +62,22 @@ final class LanguageTests {
             for (String word : FORBIDDEN) {
                 Check.due(word + " in: " + line, false, () -> Pattern.compile(word).matcher(line).find());
             }
-            Matcher matcher = LIBRARY.matcher(line);
+            boolean isSwitch = line.strip().startsWith("case ") || line.strip().startsWith("default ");
+            Check.due("a lambda in: " + line, false, () -> !isSwitch && LAMBDA.matcher(line).find());
+        }
+    }
+
+    private static void testLibrary(List<String> lines) {
+        for (String line : lines) {
+            if (isComment(line)) {
+                continue;
+            }
+            boolean isImport = line.startsWith("import ");
+            Check.due("listed: " + line, true, () -> !isImport || IMPORT.matcher(line.strip()).matches());
+            Matcher matcher = LIBRARY.matcher(isImport ? "" : line);
             while (matcher.find()) {
                 String call = matcher.group();
-                Check.due(call + " is listed", true, () -> ALLOWED.contains(call));
+                Check.due(call + " is listed", true, () -> LISTED.matcher(call).matches());
             }
         }
     }
@@ -71,7 +87,7 @@ final class LanguageTests {
         int head = -1;
         for (int i = 0; i < lines.size(); i++) {
             String line = lines.get(i);
-            classes += line.matches(".*\\bclass \\w+ \\{") ? 1 : 0;
+            classes += line.matches(".*\\b(class|enum|interface|record) \\w+.*\\{") ? 1 : 0;
             if (HEAD.matcher(line).matches() && !line.endsWith(";")) {
                 head = i;
             }
@@ -83,6 +99,6 @@ final class LanguageTests {
             }
         }
         int many = classes;
-        Check.due("at most twelve classes", true, () -> many > 1 && many <= 12);
+        Check.due("at most twelve classes", true, () -> many <= 12);
     }
 }
