@@ -534,6 +534,18 @@ final class AnswerBoundaryTests {
                 readBinary(true, 0, 0) = 0                     // into the cell that it is read from
                 house(1) = 7
                 """);
+        Run.test("promises 22 and 23: of an ANSWER, not of the ARGUMENT in the cell of that number", """
+                put(0, false, 16, 0) = 1
+                up(0, 0) = 1
+                readBinary(true, 0, 1) = 1
+                parts(true, 1) = 0 1023 1
+                readBinary(false, 0, 1) = 1
+                parts(true, 1) = 0 1023 0
+                readDecimal(true, 0, 1) = 1
+                parts(true, 1) = 0 1023 1
+                readDecimal(false, 0, 1) = 1
+                parts(true, 1) = 0 1023 0
+                """);
         Run.test("promise 23: readDecimal is REFUSED if it has no DECIMAL", """
                 put(0, false, 31, 0) = 1
                 readDecimal(false, 0, 0) = -9

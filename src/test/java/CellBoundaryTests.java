@@ -67,6 +67,7 @@ final class CellBoundaryTests {
 
     static void run() {
         testCells();
+        testWays();
         testActs();
         Check.test("section 3: what is REFUSED tells -9 and changes nothing, but is counted", () -> {
             for (String call : REFUSED) {
@@ -123,6 +124,66 @@ final class CellBoundaryTests {
                 run.due("offset(true, " + cell + ")", Check.INDEX);
             }
         });
+    }
+
+    private static void testWays() {
+        Run.test("section 3: a NUMBER comes from the one cell to the other, no other cell changes", """
+                put(1, false, 21, 1) = 1
+                put(6, true, 12, 0) = 1
+                keep(1, 6) = 1
+                parts(true, 6) = 0 1026 1125899906842625
+                up(1, 5) = 1
+                parts(true, 5) = 0 1026 1125899906842626
+                down(1, 4) = 1
+                parts(true, 4) = 0 1026 1125899906842624
+                steps(1, 2, 3) = 1
+                parts(true, 3) = 0 1026 1125899906842627
+                shift(1, 1, 2) = 1
+                parts(true, 2) = 0 1027 1125899906842625
+                unit(1, 0) = 1
+                parts(true, 0) = 0 974 0
+                unitByPower(1, 7) = 1
+                parts(true, 7) = 0 974 0
+                parts(true, 1) = 0 0 0
+                gap(1, true, 6) = 1
+                parts(true, 6) = 0 974 0
+                readBinary(false, 1, 5) = 1
+                parts(true, 5) = 0 1026 1125899906842625
+                readDecimal(true, 5, 4) = 1
+                parts(true, 4) = 0 1026 1125899906842625
+                least(4, 1, 3) = 64
+                parts(true, 3) = 0 1025 1125899906842625
+                parts(true, 1) = 0 0 0
+                copy(1, 2) = 1
+                parts(false, 2) = 0 1026 1125899906842625
+                take(5, 3) = 1
+                parts(false, 3) = 0 1026 1125899906842625
+                take(0, 4) = -9
+                parts(false, 1) = 0 1026 1125899906842625
+                parts(false, 6) = 1 1019 2702159776422298
+                parts(false, 5) = 0 0 0
+                """);
+        Run.test("section 3: a NUMBER comes of the first and the other one to a third cell", """
+                put(1, false, 21, 1) = 1
+                put(6, true, 16, 0) = 1
+                sum(1, 6, false, 3) = 1
+                parts(true, 3) = 0 1026 562949953421313
+                sum(6, 1, true, 4) = 1
+                parts(true, 4) = 1 1026 1688849860263937
+                sum(1, 6, true, 4) = 1
+                parts(true, 4) = 0 1026 1688849860263937
+                error(1, 6, false, 5) = 0
+                towards(1, 6, 2) = 1
+                parts(true, 2) = 0 1026 1125899906842624
+                towards(6, 1, 2) = 1
+                parts(true, 2) = 1 1022 4503599627370495
+                middle(6, 1, 0) = 1
+                place(true, 0) = 7318349394477056
+                parts(true, 1) = 0 0 0
+                parts(true, 6) = 0 0 0
+                parts(false, 3) = 0 0 0
+                house(1) = 7
+                """);
     }
 
     private static void testActs() {
