@@ -356,7 +356,7 @@ final class NumberBoundaryTests {
             run.due("put(0, true, -1, 0)", Check.ARGUMENT);
             run.due("put(0, true, 32, 0)", Check.ARGUMENT);
         });
-        Check.test("section 2: the first and the last OFFSET of a WINDOW are -512 and 511", () -> {
+        Check.test("section 2: a WINDOW has the OFFSETS -512 to 511, and no POINT lies in two WINDOWS", () -> {
             for (int knot = 0; knot < 32; knot++) {
                 testWindow(knot, false);
             }
