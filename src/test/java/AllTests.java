@@ -1,4 +1,4 @@
-/** Runs every test of the project; its argument is the path of Nearplaces.java. */
+/** Runs every test of the project; its arguments are the paths of Nearplaces.java and README.md. */
 final class AllTests {
     private AllTests() {
     }
@@ -6,6 +6,7 @@ final class AllTests {
     public static void main(String[] args) {
         FaceTests.run();
         LanguageTests.run(args[0]);
+        ReadmeTests.run(args[1]);
         PromiseTests.run();
         NumberBoundaryTests.run();
         CellBoundaryTests.run();

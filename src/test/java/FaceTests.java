@@ -4,7 +4,6 @@ import java.lang.reflect.Member;
 import java.lang.reflect.Method;
 import java.lang.reflect.Modifier;
 import java.util.Arrays;
-import java.util.HashSet;
 import java.util.Set;
 import java.util.TreeSet;
 
@@ -121,11 +120,17 @@ final class FaceTests {
         return Modifier.isPrivate(member.getModifiers());
     }
 
-    private static void testNames() {
-        Set<String> names = new HashSet<>();
+    /** The names of the document's methods. */
+    static Set<String> names() {
+        Set<String> names = new TreeSet<>();
         for (String line : FACE) {
             names.add(line.substring(line.indexOf(' ') + 1, line.indexOf('(')));
         }
+        return names;
+    }
+
+    private static void testNames() {
+        Set<String> names = names();
         testPrivateNames(Nearplaces.class, names);
         for (Class<?> inside : Nearplaces.class.getDeclaredClasses()) {
             testPrivateNames(inside, names);

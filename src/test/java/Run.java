@@ -35,7 +35,7 @@ final class Run {
             if (equal >= 0) {
                 due(told.substring(0, equal).strip(), told.substring(equal + 1).strip());
             } else if (!told.isBlank()) {
-                throw new IllegalArgumentException("no answer is told in: " + line);
+                throw new IllegalStateException("no answer is told in: " + line);
             }
         }
         return this;
@@ -52,7 +52,7 @@ final class Run {
         int open = call.indexOf('(');
         Method method = METHODS.get(call.substring(0, open));
         if (method == null || !call.endsWith(")")) {
-            throw new IllegalArgumentException("no such call: " + call);
+            throw new IllegalStateException("no such call: " + call);
         }
         String told = call.substring(open + 1, call.length() - 1).strip();
         String[] texts = told.isEmpty() ? new String[0] : told.split(",");
@@ -60,7 +60,20 @@ final class Run {
         for (int i = 0; i < texts.length; i++) {
             given[i] = argument(texts[i].strip());
         }
+        requireFits(call, method, given);
         return answer(method, given);
+    }
+
+    /** Otherwise invoke() throws what the call itself may be due to throw. */
+    private static void requireFits(String call, Method method, Object[] given) {
+        Class<?>[] types = method.getParameterTypes();
+        boolean isFit = types.length == given.length;
+        for (int i = 0; isFit && i < types.length; i++) {
+            isFit = types[i] == (given[i] instanceof Boolean ? boolean.class : int.class);
+        }
+        if (!isFit) {
+            throw new IllegalStateException("no such arguments: " + call);
+        }
     }
 
     private static Object argument(String text) {
